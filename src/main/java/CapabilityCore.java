@@ -239,12 +239,12 @@ public final class CapabilityCore {
                 trap = storeCapability(s, t, immediate);
                 break;
             case 15:
-                return branchIf(registers[s].address == registers[t].address, immediate);
+                return branch(registers[s].address == registers[t].address ? immediate : 1);
             case 16:
-                return branchIf(registers[s].address < registers[t].address, immediate);
+                return branch(registers[s].address < registers[t].address ? immediate : 1);
             case 17:
                 writeLink(d);
-                return branchIf(true, immediate);
+                return branch(immediate);
             case 18:
                 return jump(d, s);
             case 23:
@@ -271,7 +271,7 @@ public final class CapabilityCore {
                 }
                 break;
         }
-        return trap == NO_TRAP ? branchIf(true, 1) : trap;
+        return trap == NO_TRAP ? branch(1) : trap;
     }
 
     private static int compute(int operation, int x, int y, int immediate) {
@@ -496,8 +496,8 @@ public final class CapabilityCore {
         return NO_TRAP;
     }
 
-    private int branchIf(boolean taken, int distance) {
-        pcc.move(pcc.address + 4 * (taken ? distance : 1));
+    private int branch(int distance) {
+        pcc.move(pcc.address + 4 * distance);
         return NO_TRAP;
     }
 

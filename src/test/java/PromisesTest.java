@@ -113,9 +113,10 @@ public final class PromisesTest {
         CapabilityCore core = new CapabilityCore();
         core.poke(0, Machine.code(14, 0, 1, 1, 1016));
         core.poke(1, Machine.code(14, 0, 1, 1, 16));
-        core.run(2);
+        core.poke(2, Machine.code(14, 0, 1, 1, 0));
+        core.run(3);
         for (int g = 0; g < 128; g++) {
-            tally.due("tagged(" + g + ")", core.tagged(g), g == 2 || g == 127);
+            tally.due("tagged(" + g + ")", core.tagged(g), g == 0 || g == 2 || g == 127);
         }
         int[] none = {-1, 128, 129, Integer.MIN_VALUE, Integer.MAX_VALUE};
         for (int granule : none) {
