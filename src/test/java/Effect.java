@@ -22,6 +22,20 @@ final class Effect {
         this.scene = scene;
     }
 
+    /** One step in the scene that is no trap and goes on to the next word, if nothing else is said. */
+    static Effect ofStep(Tally tally, String name, int... instructions) {
+        return new Effect(tally, name, () -> Scene.before(tally, instructions)).grows("steps()", 1)
+            .becomes("register(8, 0)", Scene.AT + 4);
+    }
+
+    /** One step in the scene that is a trap with this cause. */
+    static Effect ofTrap(Tally tally, String name, int cause, int... instructions) {
+        return new Effect(tally, name, () -> Scene.before(tally, instructions)).grows("steps()", 1)
+            .grows("traps()", 1).becomes("cause()", cause)
+            .register(10, Scene.AT, Scene.PCC_META, 1, 512, 544)
+            .register(8, Scene.HANDLER_AT, Scene.ROOT_META, 1, 0, 1024);
+    }
+
     Effect becomes(String question, long value) {
         values.put(question, value);
         return this;
@@ -44,6 +58,10 @@ final class Effect {
     Effect number(int r, int number) {
         long bound = (Integer.toUnsignedLong(number) + 16) / WINDOW * WINDOW;
         return register(r, number, 0, 0, bound, bound);
+    }
+
+    void inOneStep() {
+        of(core -> core.run(1), 1);
     }
 
     void of(ToLongFunction<CapabilityCore> call, long answer) {

@@ -55,11 +55,25 @@ final class Machine {
         return core.run(n);
     }
 
+    int state() {
+        called();
+        return core.state();
+    }
+
+    int cause() {
+        called();
+        return core.cause();
+    }
+
+    int traps() {
+        called();
+        return core.traps();
+    }
+
     /** Writes the instruction where PCC points and makes one step. */
     private void step(int instruction) {
         poke(reg(8, 0) >>> 2, instruction);
-        called();
-        due("run(1)", core.run(1), 1);
+        due("run(1)", run(1), 1);
     }
 
     /** A step that is no trap and goes on to the next word. */
@@ -71,11 +85,9 @@ final class Machine {
 
     /** A step that is no trap. */
     void flow(int operation, int d, int s, int t, int i) {
-        called();
-        int before = core.traps();
+        int before = traps();
         step(code(operation, d, s, t, i));
-        called();
-        due("traps in operation " + operation, core.traps(), before);
+        due("traps in operation " + operation, traps(), before);
     }
 
     /** A step that is a trap, without a handler: nothing is done but the trap. Then it is woken. */
@@ -85,12 +97,12 @@ final class Machine {
         int dAddress = reg(d, 0);
         int dMeta = reg(d, 1);
         int dTag = reg(d, 2);
-        int before = core.traps();
+        int before = traps();
         String what = " in operation " + operation + " with trap " + cause;
         step(code(operation, d, s, t, i));
-        due("cause" + what, core.cause(), cause);
-        due("traps" + what, core.traps(), before + 1);
-        due("state" + what, core.state(), 2);
+        due("cause" + what, cause(), cause);
+        due("traps" + what, traps(), before + 1);
+        due("state" + what, state(), 2);
         due("EPCC" + what, reg(10, 0), at);
         due("EPCC's meta" + what, reg(10, 1), pccMeta);
         due("PCC" + what, reg(8, 0), at);
@@ -98,7 +110,6 @@ final class Machine {
         due("D's address" + what, reg(d, 0), dAddress);
         due("D's meta" + what, reg(d, 1), dMeta);
         due("D's tag" + what, reg(d, 2), dTag);
-        called(5);
         wake((at >>> 2) + 1);
     }
 
@@ -106,11 +117,9 @@ final class Machine {
     void trapAtPcc(int cause, int address) {
         int meta = reg(8, 1);
         int tag = reg(8, 2);
-        called();
-        due("run(1) at " + address, core.run(1), 1);
-        due("cause at " + address, core.cause(), cause);
-        due("state at " + address, core.state(), 2);
-        called(2);
+        due("run(1) at " + address, run(1), 1);
+        due("cause at " + address, cause(), cause);
+        due("state at " + address, state(), 2);
         dueReg(8, address, meta, tag);
         dueReg(10, address, meta, tag);
         wake(0);

@@ -62,7 +62,7 @@ public final class OperationsTest {
         Machine m = machine("halt");
         m.op(1, 2, 0, 0, 5);
         m.flow(0, 7, 6, 5, -1);
-        m.due("state", m.core.state(), 1);
+        m.due("state", m.state(), 1);
         m.dueReg(8, 4, ROOT_META, 1);
         m.dueReg(10, 0, 0, 0);
     }
@@ -338,7 +338,7 @@ public final class OperationsTest {
         m.dueReg(3, 88, ROOT_META | 1 << 8, 1);
         m.flow(17, 0, 0, 0, 5);
         m.dueReg(8, 100, ROOT_META, 1);
-        m.due("traps", m.core.traps(), 0);
+        m.due("traps", m.traps(), 0);
     }
 
     /** Bounds 8 .. 104 have the window -8 .. 119: a branch that leaves it costs PCC its tag. */
@@ -537,7 +537,7 @@ public final class OperationsTest {
         authority(m, 3, 9, SEAL);
         m.op(23, 3, 3, 3, 0);
         m.dueReg(3, 9, Machine.meta(SEAL, 9, 4, 0, 64), 1);
-        m.due("traps", m.core.traps(), 0);
+        m.due("traps", m.traps(), 0);
     }
 
     private void sealTraps() {
@@ -779,12 +779,12 @@ public final class OperationsTest {
         m.op(29, 0, 2, 0, 0);
         int at = m.reg(8, 0);
         m.poke(at / 4, 30);
-        m.due("run(1)", m.core.run(1), 1);
+        m.due("run(1)", m.run(1), 1);
         m.dueReg(8, 512, meta, 1);
         m.dueReg(9, 512, meta, 1);
         m.dueReg(10, at, ROOT_META, 1);
-        m.due("cause", m.core.cause(), 9);
-        m.due("state", m.core.state(), 0);
+        m.due("cause", m.cause(), 9);
+        m.due("state", m.state(), 0);
         m.op(1, 3, 0, 0, 1);
         m.flow(31, 0, 0, 0, 0);
         m.dueReg(8, at, ROOT_META, 1);

@@ -77,11 +77,11 @@ public final class PromiseEdgesTest {
         for (int g = 0; g < 128; g++) {
             m.due("tagged(" + g + ")", flag(m.tagged(g)), flag(g == 0 || g == 120 || g == 121 || g == 127));
         }
-        m.called(4);
-        m.due("state", m.core.state(), 0);
-        m.due("cause", m.core.cause(), 9);
+        m.due("state", m.state(), 0);
+        m.due("cause", m.cause(), 9);
+        m.called(1);
         m.due("steps", m.core.steps(), 23);
-        m.due("traps", m.core.traps(), 1);
+        m.due("traps", m.traps(), 1);
         theSceneWithoutZeros();
     }
 
@@ -90,12 +90,12 @@ public final class PromiseEdgesTest {
         for (int w = 0; w < 200; w++) {
             m.due("word " + w + " is 0", flag(m.peek(w) == 0), 0);
         }
-        m.due("state", m.core.state(), 1);
+        m.due("state", m.state(), 1);
         m = Scene.stuck(tally);
         for (int w = 200; w < 256; w++) {
             m.due("word " + w + " is 0", flag(m.peek(w) == 0), 0);
         }
-        m.due("state", m.core.state(), 2);
+        m.due("state", m.state(), 2);
         m.dueReg(8, 536, Scene.PCC_META, 1);
         m.dueNumber(9, -3);
     }
@@ -351,6 +351,7 @@ public final class PromiseEdgesTest {
         }
         wakeWithAnotherRegister1();
         wakeFromOddPcc();
+        wakeFromSealedPcc();
         wakeRunsTheWord(0);
         wakeRunsTheWord(255);
     }
@@ -383,6 +384,20 @@ public final class PromiseEdgesTest {
         tally.due("PCC at 1024", core.register(8, 0), 1024);
         tally.due("wake(0)", core.wake(0), true);
         tally.due("PCC at 0", core.register(8, 0), 0);
+    }
+
+    private void wakeFromSealedPcc() {
+        Machine m = new Machine(tally, "wake from a sealed PCC");
+        m.cap(2, 512, 64, Machine.ALL);
+        m.sealed(2, 5);
+        m.op(29, 0, 2, 0, 1);
+        m.flow(31, 0, 0, 0, 0);
+        m.due("run(1)", m.run(1), 1);
+        m.due("state", m.state(), 2);
+        m.wake(7);
+        m.dueReg(8, 28, ROOT_META, 1);
+        m.dueBounds(8, 0, 1024);
+        m.op(1, 3, 0, 0, 1);
     }
 
     private void wakeRunsTheWord(int word) {

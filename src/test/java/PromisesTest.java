@@ -99,10 +99,11 @@ public final class PromisesTest {
     private void promise3peek() {
         CapabilityCore core = new CapabilityCore();
         for (int w = 0; w < 256; w++) {
-            core.poke(w, 3 * w - 300);
+            core.poke(w, 3 * w - 299);
         }
-        for (int w = 0; w < 256; w++) {
-            tally.due("peek(" + w + ")", core.peek(w), 3 * w - 300);
+        // Not all of them: an object is used for 512 calls.
+        for (int w = 0; w < 256; w += w == 64 ? 128 : 1) {
+            tally.due("peek(" + w + ")", core.peek(w), 3 * w - 299);
         }
         for (int word : NO_WORDS) {
             tally.due("peek(" + word + ")", core.peek(word), 0);
@@ -195,8 +196,8 @@ public final class PromisesTest {
         m.dueReg(8, 512, m.reg(2, 1), 1);
         m.trap(9, 30, 0, 0, 0, 0);
         m.dueReg(8, 516, ROOT_META, 1);
-        m.due("cause", m.core.cause(), 9);
-        m.due("traps", m.core.traps(), 1);
+        m.due("cause", m.cause(), 9);
+        m.due("traps", m.traps(), 1);
         m.due("EPCC", m.reg(10, 0), 512);
         m.due("EPCC's meta", m.reg(10, 1), m.reg(2, 1));
         m.dueReg(11, 0, ROOT_META, 1);

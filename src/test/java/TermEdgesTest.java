@@ -53,10 +53,8 @@ public final class TermEdgesTest {
         return new Machine(tally, name);
     }
 
-    /** A step in the scene that is no trap and goes on to the next word. */
     private Effect step(String name, int... instructions) {
-        return new Effect(tally, name, () -> Scene.before(tally, instructions)).grows("steps()", 1)
-            .becomes("register(8, 0)", Scene.AT + 4);
+        return Effect.ofStep(tally, name, instructions);
     }
 
     private void oneStepAfterTheOther() {
@@ -100,7 +98,7 @@ public final class TermEdgesTest {
         computed(3, MAX, -1, 0, MIN);
         computed(3, 0, 1, 0, -1);
         computed(7, MAX, 1, 0, -2);
-        computed(10, 0, 0, 131071, -16384 + MIN);
+        computed(10, 0, 0, 131071, MAX - 16383);
         computed(10, 0, 0, 65536, 1 << 30);
         Machine m = machine("addresses wrap");
         m.raw(2, -1, 0);
@@ -283,7 +281,7 @@ public final class TermEdgesTest {
         m.dueReg(2, 0, 0, 0);
     }
 
-    /** Makes register 2 the bounds 400 .. 416 with this type, which may be 0 or 1. */
+    /** Makes register 2 one with the bounds 512 .. 576 and this type, which may be 0 or 1. */
     private void typed(Machine m, int type) {
         m.cap(2, 512, 64, ALL);
         if (type == 1) {
@@ -307,11 +305,10 @@ public final class TermEdgesTest {
             int[] operations = {11, 12, 13, 14};
             m.give(3, 0);
             for (int operation : operations) {
-                int i = 8;
                 if (type == 0) {
-                    m.op(operation, 3, 2, 0, i);
+                    m.op(operation, 3, 2, 0, 8);
                 } else {
-                    m.trap(2 + 32, operation, 3, 2, 0, operation < 13 ? i - 4 : i - 8);
+                    m.trap(2 + 32, operation, 3, 2, 0, 8);
                 }
             }
             m.give(3, 0);
@@ -370,11 +367,10 @@ public final class TermEdgesTest {
         // Over a capability that is sealed, in each operation that writes a number.
         for (int operation = 1; operation <= 10; operation++) {
             step("operation " + operation + " over register 4", Machine.code(operation, 4, 0, 0, 0)).number(4, 0)
-                .of(c -> c.run(1), 1);
+                .inOneStep();
         }
-        step("load over register 4", Machine.code(11, 4, 2, 0, 0), Machine.code(11, 4, 1, 0, 4))
-            .number(4, ROOT_META | 1 << 8).of(c -> c.run(1), 1);
-        step("get over register 4", Machine.code(25, 4, 4, 0, 3)).number(4, 5).of(c -> c.run(1), 1);
+        step("load over register 4", Machine.code(11, 4, 1, 0, 4)).number(4, ROOT_META | 1 << 8).inOneStep();
+        step("get over register 4", Machine.code(25, 4, 4, 0, 3)).number(4, 5).inOneStep();
     }
 
     private void bounds(int e, int b, int t, int address, long base, long top) {
@@ -724,14 +720,14 @@ public final class TermEdgesTest {
             {20, 2, 3, 0}, {21, 2, 0, 0}, {22, 1, 2, 0}, {25, 2, 0, 0}, {26, 1, 6, 0}, {27, 2, 0, 0}, {28, 2, 0, 0},
             {29, 0, 0, 0}, {29, 0, 0, 1}, {29, 0, 0, 2}, {17, 0, 0, 1}};
         for (int[] w : writers) {
-            step("operation " + w[0] + " into 0", Machine.code(w[0], 0, w[1], w[2], w[3])).of(c -> c.run(1), 1);
+            step("operation " + w[0] + " into 0", Machine.code(w[0], 0, w[1], w[2], w[3])).inOneStep();
         }
         int authority = Machine.code(1, 3, 0, 0, 5);
         int moved = Machine.code(22, 3, 1, 3, 0);
-        step("seal into 0", authority, moved, Machine.code(23, 0, 2, 3, 0)).of(c -> c.run(1), 1);
-        step("unseal into 0", authority, moved, Machine.code(24, 0, 4, 3, 0)).of(c -> c.run(1), 1);
-        step("jump with 0", Machine.code(18, 0, 5, 0, 0)).register(8, 32, ROOT_META, 1, 0, 1024).of(c -> c.run(1), 1);
-        step("swap into 0", Machine.code(29, 0, 3, 0, 2)).number(11, 77).of(c -> c.run(1), 1);
+        step("seal into 0", authority, moved, Machine.code(23, 0, 2, 3, 0)).inOneStep();
+        step("unseal into 0", authority, moved, Machine.code(24, 0, 4, 3, 0)).inOneStep();
+        step("jump with 0", Machine.code(18, 0, 5, 0, 0)).register(8, 32, ROOT_META, 1, 0, 1024).inOneStep();
+        step("swap into 0", Machine.code(29, 0, 3, 0, 2)).number(11, 77).inOneStep();
         new Effect(tally, "give(0, 5)", () -> Scene.running(tally)).of(c -> c.give(0, 5) ? 1 : 0, 0);
     }
 
